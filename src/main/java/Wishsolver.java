@@ -112,7 +112,7 @@ public final class Wishsolver {
         if (isIn(ranges[variable], value)) {
             ranges[variable] &= ~(1 << value);
             if (ranges[variable] == 0) {
-                fail();
+                emptyRanges();
             } else {
                 wake(variable, NONE);
             }
@@ -728,8 +728,7 @@ public final class Wishsolver {
 
     private void clearHouse() {
         problem.clear();
-        Arrays.fill(ranges, 0);
-        queue.clear();
+        emptyRanges();
         level = 0;
         wipe();
         if (seeker != null) {
@@ -788,7 +787,8 @@ public final class Wishsolver {
         level++;
     }
 
-    private void fail() {
+    /** All ranges are empty, and nothing waits. */
+    private void emptyRanges() {
         Arrays.fill(ranges, 0);
         queue.clear();
     }
@@ -816,7 +816,7 @@ public final class Wishsolver {
         problem.space.spread(ranges);
         int losers = problem.narrow(rule, ranges);
         if (isFailed()) {
-            fail();
+            emptyRanges();
         } else {
             for (int i = 0; i < problem.count; i++) {
                 if (isIn(losers, i)) {
@@ -1295,7 +1295,6 @@ public final class Wishsolver {
             Arrays.fill(told, 0);
             ruleCount = 0;
             goal.clear();
-            rebuild();
         }
 
         void copy(Problem other) {

@@ -11,10 +11,13 @@ public final class ModelTest {
   private final Model model = new Model();
   private final List<String> calls = new ArrayList<>();
   private final int widest;
+  /** Of twelve rules so many are dear ones: the more of them, the more solutions are left. */
+  private final int soft;
 
   private ModelTest(long seed) {
     random = new Random(seed);
     widest = seed % 16 == 0 ? 1300 : 130;
+    soft = upTo(13);
   }
 
   public static void main(String[] args) throws Exception {
@@ -22,6 +25,7 @@ public final class ModelTest {
     int first = args.length > 1 ? Integer.parseInt(args[1]) : 0;
     int[] seen = new int[4];
     for (int seed = first; seed < first + runs; seed++) new ModelTest(seed).play(seen);
+    for (int seed = 0; seed < 3; seed++) new ModelTest(seed).hard(seen, seed);
     System.out.println("ModelTest: " + runs + " runs; answers yes " + seen[1] + ", no " + seen[2] + ", given up " + seen[3]);
   }
 
@@ -43,6 +47,35 @@ public final class ModelTest {
     call("digest");
   }
 
+  /** Searches that need many lines: one with forty and the empty one, one that is given up, one between. */
+  private void hard(int[] seen, int which) throws Exception {
+    int[][] sets = {{63, 7, 15, 22, 7}, {15, 7, 3, 11, 15, 7}, {15, 7, 3, 11, 15, 7}};
+    int[][][] weights = {
+      {{3, 3, -4, 2, 3}, {-2, 4, 3, -3, -4}, {-4, 4, 3, -2, 4}, {-1, -2, 0, -1, -2}},
+      {{2, 2, 2, -3, 3, 1}, {0, 1, 2, 0, 3, 1}, {-3, -1, -3, 0, 3, -2}, {4, -3, 4, -2, -4, 2}},
+      {{2, 2, 2, -3, 3, 1}, {0, 1, 2, 0, 3, 1}, {-3, -1, -3, 0, 3, -2}, {4, -3, 4, -2, -4, 2}}};
+    int[][][] told = {{{0, 7, 1}, {2, -3, 2}, {2, 0, 4}}, {{2, 15, 2}, {1, 6, 1}, {0, -3, 0}}, {{2, 15, 2}, {1, 6, 1}, {0, -3, 0}}};
+    int[] bounds = {-12, -11, -9};
+    for (int set : sets[which]) call("variable", set);
+    for (int i = 0; i < 4; i++) {
+      for (int k = 0; k < sets[which].length; k++) call("term", k, weights[which][i][k]);
+      if (i < 3) call("sum", told[which][i][0], told[which][i][1], told[which][i][2]);
+    }
+    call("goal");
+    call("begin", true, bounds[which]);
+    for (int i = 0; i < 120 && model.search(0) == 0; i++) {
+      call("step");
+      call("chosen");
+      call("search", 5);
+    }
+    for (int i = 0; i < 42; i++) call("line", i);
+    for (int i = 0; i < 6; i++) call("weight", i);
+    for (int i = 0; i < 7; i++) call("search", i);
+    call("found");
+    seen[model.search(0)]++;
+    call("digest");
+  }
+
   private int upTo(int n) {
     return random.nextInt(n);
   }
@@ -54,7 +87,7 @@ public final class ModelTest {
   }
 
   private int price() {
-    return upTo(40) == 0 ? upTo(14) - 2 : upTo(3) == 0 ? 1 + upTo(9) : 0;
+    return upTo(40) == 0 ? upTo(14) - 2 : upTo(12) < soft ? 1 + upTo(9) : 0;
   }
 
   private int set() {

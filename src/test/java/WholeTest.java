@@ -1,0 +1,128 @@
+/** Promises 46 to 48: the house, whether all is sound, the checksum. */
+public final class WholeTest {
+  public static void main(String[] args) {
+    promise46();
+    promise47();
+    promise48();
+    promise48Order();
+    Check.end("WholeTest");
+  }
+
+  private static String house(Wishsolver x) {
+    StringBuilder all = new StringBuilder();
+    for (int i = 0; i <= 11; i++) all.append(i == 0 ? "" : " ").append(x.house(i));
+    return all.toString();
+  }
+
+  private static void promise46() {
+    Wishsolver x = Check.with(7, 7, 3);
+    Check.refuses("46 below", x, Check.ARGUMENT, () -> x.house(-1));
+    Check.refuses("46 above", x, Check.ARGUMENT, () -> x.house(12));
+    Check.terms(x, 1, 1, 1);
+    x.goal();
+    Check.terms(x, 1, 1);
+    x.row(0, 0, 0);
+    x.order(0, 1, 1, 0);
+    x.order(1, 0, 0, 0);
+    x.unlike(5, 3);
+    x.draw();
+    x.suppose();
+    Check.same("46 all", house(x), "3 3 1 3 0 8 2 1 3 0 0 1");
+    x.look();
+    Check.same("46 looked", house(x), "3 3 1 2 0 6 2 1 3 1 2 1");
+    x.settle();
+    Check.same("46 failed", house(x), "3 3 1 0 1 0 2 1 3 " + x.house(9) + " 8 1");
+    x.back();
+    Check.same("46 ever", house(x), "3 3 0 3 0 8 2 1 3 " + x.house(9) + " 8 1");
+    x.puzzle(1, 2);
+    Check.same("46 a puzzle", house(x), "2 1 0 1 0 4 0 0 0 " + x.house(9) + " 8 1");
+  }
+
+  private static void promise47() {
+    Wishsolver x = new Wishsolver();
+    Check.same("47 without anything", x.isSound(), true);
+    for (int kind = 0; kind < 4; kind++) {
+      for (int n = 3; n <= 5; n++) {
+        x.puzzle(kind, n);
+        Check.same("47 a puzzle", x.isSound(), true);
+        x.choose(0, 0);
+        x.settle();
+        x.begin(false, 0);
+        x.run(12);
+        Check.same("47 settled", x.isSound(), true);
+        x.take(1, 1);
+        x.take(1, 2);
+        x.settle();
+        Check.same("47 taken", x.isSound(), true);
+      }
+    }
+  }
+
+  /** The same number, put together outside from all that is asked. */
+  private static long sum(Wishsolver x) {
+    java.util.List<Integer> all = new java.util.ArrayList<>();
+    for (int i = 0; i <= 11; i++) all.add(x.house(i));
+    for (int i = 0; i < x.house(0); i++) all.addAll(java.util.List.of(x.range(i, true), x.range(i, false), x.weight(i)));
+    for (int i = 0; i < x.house(1); i++) for (int k = 0; k <= 6; k++) all.add(x.ofRule(i, k));
+    all.add(x.waiting().length());
+    all.add(x.solutions());
+    boolean isSolvable = x.solutions() > 0;
+    all.add(isSolvable ? x.best(false) : -1);
+    all.add(isSolvable ? x.best(true) : -1);
+    all.add(x.unlikes(3));
+    all.add(isSolvable ? -1 : x.core().length());
+    all.add(x.tights(1));
+    all.add(x.tights(2));
+    for (int i = 0; i <= 6; i++) all.add(x.search(i));
+    all.add(x.chosen().length());
+    for (int i = 0; i < x.search(2); i++) all.add(x.line(i).length());
+    all.add(x.right());
+    all.add(x.isSound() ? 1 : 0);
+    long d = 6121;
+    for (int v : all) d = d * 31 + v;
+    return d;
+  }
+
+  private static void promise48() {
+    Wishsolver x = new Wishsolver();
+    Check.same("48 nothing", x.digest(), sum(x));
+    Check.same("48 is not changed by asking", x.digest(), x.digest());
+    x.variable(31);
+    x.variable(62);
+    x.variable(22);
+    x.order(0, 1, 1, 0);
+    x.term(0, 2);
+    x.goal();
+    x.unlike(7, 4);
+    Check.same("48 rules", x.digest(), sum(x));
+    x.settle();
+    x.begin(true, 3);
+    x.run(3);
+    x.draw();
+    Check.same("48 a search", x.digest(), sum(x));
+    x.choose(0, 3);
+    x.order(1, 2, 2, 0);
+    x.order(2, 0, 0, 0);
+    Check.same("48 no solution", x.digest(), sum(x));
+    x.puzzle(0, 3);
+    x.begin(false, 0);
+    x.run(12);
+    x.row(1, 1, 1);
+    Check.same("48 a proof", x.digest(), sum(x));
+  }
+
+  /** Each answer that it is made of changes it. */
+  private static void promise48Order() {
+    Wishsolver x = Check.with(7, 7);
+    long before = x.digest();
+    x.term(0, 1);
+    long term = x.digest();
+    x.wipe();
+    x.row(0, 0, 0);
+    long row = x.digest();
+    x.wipe();
+    Check.same("48 as before", x.digest(), before);
+    x.draw();
+    Check.same("48 all apart", java.util.Set.of(before, term, row, x.digest()).size(), 4);
+  }
+}
