@@ -913,7 +913,6 @@ public final class Wishsolver {
         d = mix(d, count == 0 ? NONE : problem.placeOf(point));
         d = mix(d, unlikes(3));
         if (count == 0) {
-            problem.solve();
             writeRules(problem.findCore());
             d = mix(d, text.length());
         } else {
@@ -1001,10 +1000,6 @@ public final class Wishsolver {
             kind = newKind;
             set = newSet;
             price = newPrice;
-            x = 0;
-            y = 0;
-            z = 0;
-            rowCount = 0;
             terms.clear();
             size = 0;
             for (int i = 0; i < MOST_VARIABLES; i++) {
@@ -1015,7 +1010,7 @@ public final class Wishsolver {
             }
         }
 
-        /** What a search needs of a rule: it never asks for more than where it holds. */
+        /** What a search needs of a rule: where it holds, and what it costs if it does not. */
         void copyPoints(Rule other) {
             set = other.set;
             price = other.price;
@@ -1177,14 +1172,12 @@ public final class Wishsolver {
             radix[variable] = rank;
         }
 
-        void copy(Space other) {
+        /** What a search needs of a space: it joins sets of points, and never reads one of them. */
+        void copySets(Space other) {
             count = other.count;
             size = other.size;
             words = other.words;
             System.arraycopy(other.bases, 0, bases, 0, bases.length);
-            System.arraycopy(other.radix, 0, radix, 0, radix.length);
-            System.arraycopy(other.valueOfRank, 0, valueOfRank, 0, valueOfRank.length);
-            System.arraycopy(other.rankOfValue, 0, rankOfValue, 0, rankOfValue.length);
             System.arraycopy(other.having, 0, having, 0, having.length);
         }
 
@@ -1305,7 +1298,7 @@ public final class Wishsolver {
                 rules[i].copyPoints(other.rules[i]);
             }
             goal.copy(other.goal);
-            space.copy(other.space);
+            space.copySets(other.space);
         }
 
         void rebuild() {
@@ -1583,8 +1576,9 @@ public final class Wishsolver {
             return true;
         }
 
-        /** The core, if solve() found no solution. */
+        /** The core, if there is no solution. */
         int findCore() {
+            space.spread(told);
             int left = hardRules();
             for (int i = 0; i < ruleCount; i++) {
                 if (isIn(left, i) && !isSolvable(left & ~(1 << i))) {

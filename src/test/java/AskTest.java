@@ -40,6 +40,8 @@ public final class AskTest {
     Check.same("30 hard", Check.rule(x, 0), "5 3 0 1 1 1 7");
     Check.same("30 soft", Check.rule(x, 1), "10 6 7 2 1 13 0");
     x.settle();
+    x.solutions();
+    Check.same("30 by ranges, not as told", x.ofRule(0, 5) + " " + x.ofRule(1, 6), "1 1");
     Check.same("30 settled", Check.rule(x, 0) + "; " + Check.rule(x, 1), "5 3 0 1 0 1 0; 10 6 7 2 0 2 1");
     x.often(7, 5, 1, 6, 0);
     x.settle();
@@ -156,6 +158,10 @@ public final class AskTest {
     x.order(0, 1, 1, 0);
     Check.same("36 no solution, not alike", x.alike(0, 3) + " " + x.alike(0, 1) + " " + x.alike(0, 2), "2 1 1");
     Wishsolver y = Check.with(1, 32);
+    for (int[] sets : new int[][] {{33, 12, 12}, {12, 33, 12}, {12, 12, 33}}) {
+      Wishsolver t = Check.with(sets);
+      Check.same("36 the top of any", t.alike(0, 2) + " " + t.unlikes(2), "2 4");
+    }
     Check.same("36 the top of all", y.alike(0, 3) + " " + y.alike(0, 2) + " " + y.alike(0, 1), "1 1 1");
     Wishsolver z = Check.with(11, 26);
     Check.same("36 told unlike", z.solution(4) + ": " + z.alike(4, 1) + " " + z.alike(4, 2) + " " + z.alike(4, 3), "1 3: 2 2 2");
@@ -170,6 +176,12 @@ public final class AskTest {
     Check.same("37 least", x.best(false) + " " + x.best(true), "-2 8");
     x.take(0, 2);
     Check.same("37 first of them", x.best(false) + " " + x.best(true), "-1 4");
+    Wishsolver w = Check.with(15);
+    w.term(0, 1);
+    w.goal();
+    w.often(1, 0, 0, 0, 2);
+    w.often(1, 1, 0, 0, 6);
+    Check.same("37 neither the last that is better nor the next", w.best(false) + " " + w.best(true), "2 0");
     x.choose(0, 0);
     x.drop(x.often(1, 1, 0, 1, 0));
     Check.same("37 at a level", x.best(false) + " " + x.best(true), "0 0");
@@ -205,6 +217,12 @@ public final class AskTest {
     y.drop(0);
     y.take(1, 1);
     Check.same("38 the last of those alike", y.core(), "10");
+    Wishsolver z = Check.with(3);
+    z.often(1, 0, 1, 1, 5);
+    z.often(1, 1, 1, 1, 0);
+    Check.refuses("38 the first one is soft", z, Check.STATE, () -> z.core());
+    z.often(1, 0, 1, 1, 0);
+    Check.same("38 without the soft one", z.core() + " " + z.tights(2), "1 2 1");
   }
 
   private static void promise39() {

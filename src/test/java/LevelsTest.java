@@ -104,6 +104,9 @@ public final class LevelsTest {
     Check.same("23 a soft one", x.look() + " " + x.house(9) + " " + x.house(10), "0 2 2");
     x.unlike(6, 0);
     Check.same("23 takes nothing", x.look(), 0);
+    Wishsolver p = Check.with(7, 7);
+    p.order(0, 1, 1, 1);
+    Check.same("23 soft by the least price", p.look() + " " + p.house(5), "0 6");
     x.take(2, 0);
     Check.same("23 a rule comes behind", x.often(2, 1, 0, 0, 0) + " " + x.waiting(), "3 2 3");
     Check.same("23 the first of them", x.look() + " " + x.waiting(), "0 3");

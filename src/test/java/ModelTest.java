@@ -10,11 +10,13 @@ public final class ModelTest {
   private final Wishsolver solver = new Wishsolver();
   private final Model model = new Model();
   private final List<String> calls = new ArrayList<>();
+  private final long seed;
   private final int widest;
   /** Of twelve rules so many are dear ones: the more of them, the more solutions are left. */
   private final int soft;
 
   private ModelTest(long seed) {
+    this.seed = seed;
     random = new Random(seed);
     widest = seed % 16 == 0 ? 1300 : 130;
     soft = upTo(13);
@@ -26,7 +28,8 @@ public final class ModelTest {
     int[] seen = new int[4];
     for (int seed = first; seed < first + runs; seed++) new ModelTest(seed).play(seen);
     for (int seed = 0; seed < 3; seed++) new ModelTest(seed).hard(seen, seed);
-    System.out.println("ModelTest: " + runs + " runs; answers yes " + seen[1] + ", no " + seen[2] + ", given up " + seen[3]);
+    for (int seed = first; seed < first + runs; seed++) new ModelTest(seed).close(seen);
+    System.out.println("ModelTest: " + runs + " runs, as many searches; answers yes " + seen[1] + ", no " + seen[2] + ", given up " + seen[3]);
   }
 
   private void play(int[] seen) throws Exception {
@@ -45,6 +48,74 @@ public final class ModelTest {
     seen[model.search(0)]++;
     call("isSound");
     call("digest");
+  }
+
+  /** A search among few values and many rules, step by step. */
+  private void close(int[] seen) throws Exception {
+    random.setSeed(seed);
+    int n = 4 + upTo(3);
+    int product = 1;
+    for (int i = 0; i < n; i++) {
+      int set = new int[] {3, 7, 7, 15, 15, 31}[upTo(6)];
+      if (product * Integer.bitCount(set) > 1200) set = 3;
+      product *= Integer.bitCount(set);
+      call("variable", set);
+    }
+    int rules = 3 + upTo(9);
+    for (int i = 0; i < rules; i++) closeRule(n);
+    boolean isBounded = random.nextBoolean();
+    int bound = 0;
+    if (isBounded) {
+      for (int i = 0; i < n; i++) call("term", i, upTo(5) - 2);
+      call("goal");
+      bound = upTo(14) - 8;
+    }
+    call("begin", isBounded, bound);
+    for (int i = 0; i < 200 && model.search(0) == 0; i++) {
+      call("step");
+      call("chosen");
+    }
+    for (int i = 0; i < model.search(2); i++) call("line", i);
+    for (int i = 0; i < 7; i++) call("search", i);
+    for (int i = 0; i < n; i++) call("weight", i);
+    call("found");
+    call("right");
+    seen[model.search(0)]++;
+  }
+
+  private void closeRule(int n) throws Exception {
+    int price = upTo(6) == 0 ? 1 + upTo(5) : 0;
+    int u = upTo(n);
+    int v = upTo(n);
+    int w = upTo(n);
+    switch (upTo(5)) {
+      case 0:
+        call("unlike", 1 << u | 1 << v | 1 << w, price);
+        break;
+      case 1:
+        upTo(5);
+        if (u == v || v == w || u == w) break;
+        int rows = 4 + upTo(9);
+        for (int i = 0; i < rows; i++) call("row", upTo(4), upTo(4), upTo(4));
+        call("table", u, v, w, price);
+        break;
+      case 2:
+        if (u != v) call("order", u, upTo(5) - 3, v, price);
+        break;
+      case 3:
+        int value = upTo(3);
+        int least = upTo(2);
+        int most = least + upTo(2);
+        call("often", 1 + upTo((1 << n) - 1), value, least, most, price);
+        break;
+      default:
+        for (int i = 0; i < n; i++) {
+          int weight = upTo(5) - 2;
+          if (weight != 0) call("term", i, weight);
+        }
+        call("sum", upTo(3), upTo(9) - 3, price);
+        break;
+    }
   }
 
   /** Searches that need many lines: one with forty and the empty one, one that is given up, one between. */

@@ -164,6 +164,10 @@ public final class RulesTest {
     Check.terms(x, 1, 1);
     Check.same("7 at least", x.sum(1, 5, 0), 1);
     Check.same("7 both", Check.solutions(x), "2 3");
+    Wishsolver w = Check.with(7, 7);
+    Check.terms(w, 1, 1);
+    w.sum(1, 3, 0);
+    Check.same("7 just, and more", Check.solutions(w), "1 2, 2 1, 2 2");
     Check.terms(x, 1, 1);
     x.sum(0, 2, 9);
     Check.same("7 dear", x.cost(0), 9);
@@ -228,6 +232,8 @@ public final class RulesTest {
     x.row(4, 0, 0);
     x.term(0, 1);
     Check.refuses("10 x", x, Check.INDEX, () -> x.element(2, 2, 10));
+    Check.refuses("10 x alone", x, Check.INDEX, () -> x.element(2, 0, 0));
+    Check.refuses("10 x below", x, Check.INDEX, () -> x.element(-1, 0, 0));
     Check.refuses("10 y", x, Check.INDEX, () -> x.element(0, -1, 0));
     Check.refuses("10 the same", x, Check.ARGUMENT, () -> x.element(1, 1, 0));
     Check.refuses("10 price", x, Check.ARGUMENT, () -> x.element(0, 1, 10));
@@ -239,6 +245,11 @@ public final class RulesTest {
     x.row(1, 0, 0);
     x.element(1, 0, 3);
     Check.same("10 its own rows", Check.solutions(x) + x.cost(1), "0 4, 1 2, 2 43");
+    x.drop(0);
+    x.row(5, 0, 0);
+    x.row(3, 0, 0);
+    x.element(1, 0, 0);
+    Check.same("10 turned", Check.solutions(x), "3 1, 5 0");
     Wishsolver y = Check.full(3, 3);
     y.row(1, 1, 1);
     Check.refuses("10 12 rules", y, Check.STATE, () -> y.element(0, 1, 0));
@@ -277,6 +288,8 @@ public final class RulesTest {
   private static void promise12() {
     Wishsolver x = Check.with(7, 7);
     Check.refuses("12 x", x, Check.INDEX, () -> x.order(2, 9, 2, 10));
+    Check.refuses("12 x alone", x, Check.INDEX, () -> x.order(2, 0, 0, 0));
+    Check.refuses("12 x below", x, Check.INDEX, () -> x.order(-1, 0, 0, 0));
     Check.refuses("12 y", x, Check.INDEX, () -> x.order(0, 0, -1, 0));
     Check.refuses("12 the same", x, Check.ARGUMENT, () -> x.order(1, 0, 1, 0));
     Check.refuses("12 c", x, Check.ARGUMENT, () -> x.order(0, 6, 1, 0));
@@ -491,5 +504,13 @@ public final class RulesTest {
     Check.same("19 failed", x.house(4), 1);
     Check.same("19 failed no more", x.puzzle(1, 2) + " " + x.house(4) + " " + Check.solutions(x), "1 0 1 0");
     Check.same("19 more variables", x.variable(63), 2);
+    Check.terms(x, 0, 4);
+    x.sum(0, 100, 0);
+    x.puzzle(3, 4);
+    Check.same("19 nothing is left of an older sum", x.ofRule(1, 1) + " " + x.solutions(), "9 8");
+    x.puzzle(0, 5);
+    x.puzzle(0, 2);
+    x.drop(0);
+    Check.same("19 nothing is left of older variables", x.house(5) + " " + x.range(1, false), "4 3");
   }
 }

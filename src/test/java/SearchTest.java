@@ -177,8 +177,14 @@ public final class SearchTest {
     x.begin(false, 0);
     finish(x);
     Check.same("40 the end", state(x), "2 0 6 5 5 1 1");
+    String proof = lines(x);
     x.begin(false, 0);
     Check.same("40 all new", state(x) + " " + weights(x), "0 0 0 0 0 0 0 1 1 1 1");
+    finish(x);
+    Check.same("40 the same again", state(x) + " " + lines(x), "2 0 6 5 5 1 1 " + proof);
+    Wishsolver y = Check.with(3, 3, 3, 3, 3, 3);
+    y.begin(false, 0);
+    Check.same("40 six choices", y.run(12) + " " + state(y) + " " + y.chosen() + " " + y.found(), "7 1 6 0 6 0 0 0 0=0 1=0 2=0 3=0 4=0 5=0 0 0 0 0 0 0");
   }
 
   /** Sums that are dear and a bound below all: the search needs 41 lines, the empty one among them. */

@@ -3,6 +3,7 @@ public final class WholeTest {
   public static void main(String[] args) {
     promise46();
     promise47();
+    promise47Soft();
     promise48();
     promise48Order();
     Check.end("WholeTest");
@@ -58,6 +59,18 @@ public final class WholeTest {
     }
   }
 
+  private static void promise47Soft() {
+    Wishsolver x = Check.with(7, 7);
+    x.order(0, 1, 1, 1);
+    x.settle();
+    Check.same("47 a soft rule would take, if it could", x.ofRule(0, 6) + " " + x.isSound(), "2 true");
+    x.order(0, 2, 1, 0);
+    Check.same("47 it may wait", x.isSound() + " " + x.waiting(), "true 1");
+    x.order(1, 2, 0, 0);
+    x.settle();
+    Check.same("47 failed", x.house(4) + " " + x.isSound(), "1 true");
+  }
+
   /** The same number, put together outside from all that is asked. */
   private static long sum(Wishsolver x) {
     java.util.List<Integer> all = new java.util.ArrayList<>();
@@ -104,6 +117,8 @@ public final class WholeTest {
     x.order(1, 2, 2, 0);
     x.order(2, 0, 0, 0);
     Check.same("48 no solution", x.digest(), sum(x));
+    x.often(1, 5, 1, 1, 0);
+    Check.same("48 one that is tight", x.tights(1) + " " + x.digest(), "1 " + sum(x));
     x.puzzle(0, 3);
     x.begin(false, 0);
     x.run(12);
