@@ -1,3 +1,7 @@
+import java.math.BigInteger;
+import java.util.ArrayList;
+import java.util.List;
+
 /** What the tests of the promises use: answers that are due, and refusals that change nothing. */
 final class Check {
   static final Class<?> INDEX = IndexOutOfBoundsException.class;
@@ -9,15 +13,39 @@ final class Check {
     Object answer();
   }
 
+  interface CallWith {
+    Object answer(int number);
+  }
+
+  /** Numbers far off, among them those that a shift or a sum would wrap to small ones. */
+  private static final int[] FAR = {Integer.MIN_VALUE, Integer.MIN_VALUE + 1, -65536, -2000, -64, -33, -32, 1 << 16, 1 << 20, 1 << 30,
+    Integer.MAX_VALUE - 1, Integer.MAX_VALUE};
+
   private static int wrong;
+  /** The words of the document that are tested now. */
+  private static String words = "";
 
   private Check() {}
+
+  static void say(String newWords) {
+    words = newWords;
+  }
 
   static void same(String what, Object got, Object due) {
     if (!due.equals(got)) {
       wrong++;
-      System.out.println(what + " answered " + got + ", due is " + due);
+      System.out.println(words + what + " answered " + got + ", due is " + due);
     }
+  }
+
+  /** All these numbers are refused, and those that are far off. */
+  static void refusesEach(String what, Wishsolver x, Class<?> due, CallWith call, int... numbers) {
+    refusesThese(what, x, due, call, numbers);
+    refusesThese(what, x, due, call, FAR);
+  }
+
+  static void refusesThese(String what, Wishsolver x, Class<?> due, CallWith call, int... numbers) {
+    for (int number : numbers) refuses(what + " " + number, x, due, () -> call.answer(number));
   }
 
   /** The call throws just that exception, and all that can be asked is as before. */
@@ -75,6 +103,35 @@ final class Check {
     Wishsolver x = with(sets);
     for (int i = 0; i < 12; i++) x.often(1, 0, 0, 6, 0);
     return x;
+  }
+
+  /** The digest, put together outside from all that is asked, and wrapped around at its end alone. */
+  static long checksum(Wishsolver x) {
+    return wide(x).longValue();
+  }
+
+  static BigInteger wide(Wishsolver x) {
+    List<Integer> all = new ArrayList<>();
+    for (int i = 0; i <= 11; i++) all.add(x.house(i));
+    for (int i = 0; i < x.house(0); i++) all.addAll(List.of(x.range(i, true), x.range(i, false), x.weight(i)));
+    for (int i = 0; i < x.house(1); i++) for (int k = 0; k <= 6; k++) all.add(x.ofRule(i, k));
+    all.add(x.waiting().length());
+    all.add(x.solutions());
+    boolean isSolvable = x.solutions() > 0;
+    all.add(isSolvable ? x.best(false) : -1);
+    all.add(isSolvable ? x.best(true) : -1);
+    all.add(x.unlikes(3));
+    all.add(isSolvable ? -1 : x.core().length());
+    all.add(x.tights(1));
+    all.add(x.tights(2));
+    for (int i = 0; i <= 6; i++) all.add(x.search(i));
+    all.add(x.chosen().length());
+    for (int i = 0; i < x.search(2); i++) all.add(x.line(i).length());
+    all.add(x.right());
+    all.add(x.isSound() ? 1 : 0);
+    BigInteger d = BigInteger.valueOf(6121);
+    for (int v : all) d = d.multiply(BigInteger.valueOf(31)).add(BigInteger.valueOf(v));
+    return d;
   }
 
   static void terms(Wishsolver x, int... weights) {

@@ -71,34 +71,9 @@ public final class WholeTest {
     Check.same("47 failed", x.house(4) + " " + x.isSound(), "1 true");
   }
 
-  /** The same number, put together outside from all that is asked. */
-  private static long sum(Wishsolver x) {
-    java.util.List<Integer> all = new java.util.ArrayList<>();
-    for (int i = 0; i <= 11; i++) all.add(x.house(i));
-    for (int i = 0; i < x.house(0); i++) all.addAll(java.util.List.of(x.range(i, true), x.range(i, false), x.weight(i)));
-    for (int i = 0; i < x.house(1); i++) for (int k = 0; k <= 6; k++) all.add(x.ofRule(i, k));
-    all.add(x.waiting().length());
-    all.add(x.solutions());
-    boolean isSolvable = x.solutions() > 0;
-    all.add(isSolvable ? x.best(false) : -1);
-    all.add(isSolvable ? x.best(true) : -1);
-    all.add(x.unlikes(3));
-    all.add(isSolvable ? -1 : x.core().length());
-    all.add(x.tights(1));
-    all.add(x.tights(2));
-    for (int i = 0; i <= 6; i++) all.add(x.search(i));
-    all.add(x.chosen().length());
-    for (int i = 0; i < x.search(2); i++) all.add(x.line(i).length());
-    all.add(x.right());
-    all.add(x.isSound() ? 1 : 0);
-    long d = 6121;
-    for (int v : all) d = d * 31 + v;
-    return d;
-  }
-
   private static void promise48() {
     Wishsolver x = new Wishsolver();
-    Check.same("48 nothing", x.digest(), sum(x));
+    Check.same("48 nothing", x.digest(), Check.checksum(x));
     Check.same("48 is not changed by asking", x.digest(), x.digest());
     x.variable(31);
     x.variable(62);
@@ -107,23 +82,23 @@ public final class WholeTest {
     x.term(0, 2);
     x.goal();
     x.unlike(7, 4);
-    Check.same("48 rules", x.digest(), sum(x));
+    Check.same("48 rules", x.digest(), Check.checksum(x));
     x.settle();
     x.begin(true, 3);
     x.run(3);
     x.draw();
-    Check.same("48 a search", x.digest(), sum(x));
+    Check.same("48 a search", x.digest(), Check.checksum(x));
     x.choose(0, 3);
     x.order(1, 2, 2, 0);
     x.order(2, 0, 0, 0);
-    Check.same("48 no solution", x.digest(), sum(x));
+    Check.same("48 no solution", x.digest(), Check.checksum(x));
     x.often(1, 5, 1, 1, 0);
-    Check.same("48 one that is tight", x.tights(1) + " " + x.digest(), "1 " + sum(x));
+    Check.same("48 one that is tight", x.tights(1) + " " + x.digest(), "1 " + Check.checksum(x));
     x.puzzle(0, 3);
     x.begin(false, 0);
     x.run(12);
     x.row(1, 1, 1);
-    Check.same("48 a proof", x.digest(), sum(x));
+    Check.same("48 a proof", x.digest(), Check.checksum(x));
   }
 
   /** Each answer that it is made of changes it. */
