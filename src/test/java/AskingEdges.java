@@ -379,10 +379,10 @@ final class AskingEdges {
     });
     Edges.edge("\"-\" if none waits", () -> {
       Wishsolver x = Check.with(3, 3);
-      Check.same("no rule", x.waiting(), "-");
+      Check.same("no rule", x.solution(3) + x.waiting(), "1 1-");
       x.unlike(3, 0);
       x.look();
-      Check.same("no more", x.waiting(), "-");
+      Check.same("no more", x.solution(1) + x.waiting(), "1 0-");
       x.often(1, 5, 1, 1, 0);
       x.unlike(3, 0);
       x.look();
@@ -648,8 +648,10 @@ final class AskingEdges {
     Edges.edge("\"-\" without any", () -> {
       Wishsolver x = Check.with(3);
       Check.same("no search", x.chosen(), "-");
+      x.often(1, 0, 0, 6, 0);
+      Check.same("whatever was told before", x.waiting() + x.chosen() + " " + x.solution(1) + x.chosen(), "0- 1-");
       x.begin(false, 0);
-      Check.same("none made", x.chosen(), "-");
+      Check.same("none made", x.solution(1) + x.chosen(), "1-");
       x.term(0, -1);
       x.goal();
       x.begin(true, -1);
